@@ -271,6 +271,11 @@ public final class PromiseTest {
         due("the guarantee takes of the bare part", x.weighted(0), 49);
         due("the bare part stays", x.bare(0), 299);
         due("plain knows no guarantee", x.plain(), 999);
+        CapitalReckoner y = fresh();
+        y.addExposure(2, 0, 1000, 0, 0, 1);
+        y.setWeights(3, 50, 100);
+        y.guarantee(0, 3, 333);
+        due("the same weight: not two parts, each rounded down", y.weighted(0), 500);
     }
 
     private static void promises9And10Amounts() {
@@ -472,10 +477,13 @@ public final class PromiseTest {
             due("whole", x.whole(), 448000000 - 40000000 * (p + 1));
             due("wholeByTrying", x.wholeByTrying(), 448000000 - 40000000 * (p + 1));
         }
+        due("wholeByTrying as the first question", some().wholeByTrying(), some().whole());
         CapitalReckoner y = fresh();
         y.addExposure(1, 0, 4, 0, 0, 1);
         y.addExposure(1, 0, 4, 0, 0, 1);
         due("each is rounded by itself", y.whole(), 0);
+        y.setClass(0, 3);
+        due("wholeByTrying as the first question after a change", y.wholeByTrying(), 4);
         CapitalReckoner z = fresh();
         z.addExposure(3, 0, 60, 0, 0, 1);
         z.addExposure(3, 0, 50, 0, 0, 1);
@@ -565,6 +573,14 @@ public final class PromiseTest {
         due("and none of it to the party 3", x.partyBare(3), 42);
         due("the party 1 is not too large", x.tooLarge(), 8);
         due("all four parties", full().tooLarge(), 15);
+        x.setPiece(0, 32, 1);
+        due("partyBare as the first question after a change", x.partyBare(3), 32);
+        due("and of the party that lost the piece", x.partyBare(1), 20);
+        x.setPiece(0, 10, 2);
+        due("partyBare as the first question after another change", x.partyBare(1), 10);
+        x.setPiece(0, 32, 4);
+        due("tooLarge as the first question after a change", x.tooLarge(), 2 + 8);
+        due("the party 3 then", x.partyBare(3), 10);
         for (int no : new int[] {-1, 4, FAR[0], FAR[1], FAR[2], FAR[3]}) {
             refused("partyBare of " + no, INDEX, z -> z.partyBare(no));
         }
