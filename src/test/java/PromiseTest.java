@@ -2,10 +2,10 @@ import java.util.function.ToIntFunction;
 
 /** For each promise: ordinary inputs, the edges that the document names, and wrong inputs. */
 public final class PromiseTest {
-    private static final Class<IndexOutOfBoundsException> INDEX = IndexOutOfBoundsException.class;
-    private static final Class<IllegalArgumentException> ARGUMENT = IllegalArgumentException.class;
-    private static final Class<IllegalStateException> STATE = IllegalStateException.class;
-    private static final int TOP = 10000000;
+    private static final Class<IndexOutOfBoundsException> INDEX = Checks.INDEX;
+    private static final Class<IllegalArgumentException> ARGUMENT = Checks.ARGUMENT;
+    private static final Class<IllegalStateException> STATE = Checks.STATE;
+    private static final int TOP = Samples.TOP;
     private static final int[] FAR = {Integer.MIN_VALUE, Integer.MAX_VALUE, 1 << 16, -1 << 16};
     private static final Checks CHECKS = new Checks();
 
@@ -37,49 +37,19 @@ public final class PromiseTest {
         CHECKS.due(what, got, want);
     }
 
-    private static CapitalReckoner fresh() {
-        return new CapitalReckoner();
-    }
-
-    /** Three exposures of different classes, and two pieces. */
-    private static CapitalReckoner some() {
-        CapitalReckoner x = new CapitalReckoner();
-        x.addExposure(1, 0, 1000, 500, 0, 100);
-        x.addExposure(2, 1, 2000, 0, 1, 200);
-        x.addExposure(3, 3, 300, TOP, 2, 300);
-        x.guarantee(2, 1, 77);
-        x.addPiece(400, 10, 0, 50, 7);
-        x.addPiece(600, 20, 1, 400, 6);
-        x.setCapital(5000);
-        x.setFloor(60);
-        return x;
-    }
-
-    /** As many exposures and pieces as there can be. */
-    private static CapitalReckoner full() {
-        CapitalReckoner x = new CapitalReckoner();
-        for (int e = 0; e < 8; e++) {
-            x.addExposure(e % 4, e / 2, 100 * e, 10 * e, e % 3, 10 + e);
-        }
-        for (int p = 0; p < 5; p++) {
-            x.addPiece(90 + p, p, p % 3, 8 + 2 * p, 255);
-        }
-        return x;
-    }
-
     private static void refused(String what, Class<? extends RuntimeException> want, ToIntFunction<CapitalReckoner> call) {
-        refused("fresh, " + what, PromiseTest::fresh, want, call);
-        refused("some, " + what, PromiseTest::some, want, call);
-        refused("full, " + what, PromiseTest::full, want, call);
+        refused("fresh, " + what, Samples::fresh, want, call);
+        refused("some, " + what, Samples::some, want, call);
+        refused("full, " + what, Samples::full, want, call);
     }
 
     private static void refused(String what, Checks.Maker maker, Class<? extends RuntimeException> want,
             ToIntFunction<CapitalReckoner> call) {
-        CHECKS.refused(what, m -> call.applyAsInt(m.make()), maker, want);
+        CHECKS.refused(what, maker, want, call);
     }
 
     private static void promise1NewObject() {
-        CapitalReckoner x = fresh();
+        CapitalReckoner x = Samples.fresh();
         due("new exposures", x.exposures(), 0);
         due("new pieces", x.pieces(), 0);
         due("new whole", x.whole(), 0);
@@ -91,7 +61,7 @@ public final class PromiseTest {
             due("new partyBare " + party, x.partyBare(party), 0);
         }
         due("NONE", CapitalReckoner.NONE, -1);
-        CapitalReckoner y = fresh();
+        CapitalReckoner y = Samples.fresh();
         x.addExposure(3, 0, 10, 0, 0, 1);
         due("another object has its own exposures", y.exposures(), 0);
     }
@@ -100,7 +70,7 @@ public final class PromiseTest {
         int[] first = {0, 20, 50, 100};
         int[] firstPlain = {0, 50, 100, 100};
         for (int kind = 0; kind < 4; kind++) {
-            CapitalReckoner x = fresh();
+            CapitalReckoner x = Samples.fresh();
             x.addExposure(kind, 0, 1000, 0, 0, 1);
             due("first weight of " + kind, x.whole(), first[kind] * 10);
             due("first plain weight of " + kind, x.plain(), firstPlain[kind] * 10);
@@ -125,7 +95,7 @@ public final class PromiseTest {
     }
 
     private static void promise3SetFloor() {
-        CapitalReckoner x = fresh();
+        CapitalReckoner x = Samples.fresh();
         due("first floor", x.setFloor(0), 70);
         due("floor 0 before", x.setFloor(100), 0);
         due("floor 100 before", x.setFloor(33), 100);
@@ -136,7 +106,7 @@ public final class PromiseTest {
     }
 
     private static void promise4SetCapital() {
-        CapitalReckoner x = fresh();
+        CapitalReckoner x = Samples.fresh();
         due("first capital", x.setCapital(1000000000), 0);
         due("capital 1000000000 before", x.setCapital(0), 1000000000);
         due("capital 0 before", x.setCapital(17), 0);
@@ -146,7 +116,7 @@ public final class PromiseTest {
     }
 
     private static void promise5AddExposure() {
-        CapitalReckoner x = fresh();
+        CapitalReckoner x = Samples.fresh();
         for (int e = 0; e < 8; e++) {
             due("number of an exposure", x.addExposure(e % 4, e % 4, e % 2 * TOP, (1 - e % 2) * TOP, e % 3, e == 0 ? 1 : 3650), e);
             due("exposures", x.exposures(), e + 1);
@@ -169,11 +139,11 @@ public final class PromiseTest {
         for (int no : new int[] {-1, 0, 3651, FAR[0], FAR[1], FAR[2], FAR[3]}) {
             refused("addExposure days " + no, ARGUMENT, y -> y.addExposure(0, 0, 1, 1, 0, no));
         }
-        refused("a ninth exposure", PromiseTest::full, STATE, y -> y.addExposure(0, 0, 1, 1, 0, 1));
+        refused("a ninth exposure", Samples::full, STATE, y -> y.addExposure(0, 0, 1, 1, 0, 1));
     }
 
     private static void promise6Draw() {
-        CapitalReckoner x = fresh();
+        CapitalReckoner x = Samples.fresh();
         x.addExposure(3, 0, 100, 50, 0, 1);
         due("draw 20", x.draw(0, 20), 120);
         due("amount then", x.amount(0), 132);
@@ -188,65 +158,65 @@ public final class PromiseTest {
         due("give 10000000 back", x.draw(1, -TOP), 0);
         due("amount then", x.amount(1), 4000000);
         for (int no : new int[] {-1, 3, 8, FAR[0], FAR[1], FAR[2], FAR[3]}) {
-            refused("draw from exposure " + no, PromiseTest::some, INDEX, y -> y.draw(no, 1));
-            refused("draw too much from exposure " + no, PromiseTest::some, INDEX, y -> y.draw(no, TOP + 1));
+            refused("draw from exposure " + no, Samples::some, INDEX, y -> y.draw(no, 1));
+            refused("draw too much from exposure " + no, Samples::some, INDEX, y -> y.draw(no, TOP + 1));
         }
-        refused("draw from no exposure", PromiseTest::fresh, INDEX, y -> y.draw(0, 1));
+        refused("draw from no exposure", Samples::fresh, INDEX, y -> y.draw(0, 1));
         for (int no : new int[] {-TOP - 1, TOP + 1, FAR[0], FAR[1]}) {
-            refused("draw sum " + no, PromiseTest::some, ARGUMENT, y -> y.draw(0, no));
+            refused("draw sum " + no, Samples::some, ARGUMENT, y -> y.draw(0, no));
         }
-        refused("draw above the promised part", PromiseTest::some, STATE, y -> y.draw(0, 501));
-        refused("give back above the drawn part", PromiseTest::some, STATE, y -> y.draw(0, -1001));
-        refused("drawn above 10000000", PromiseTest::some, STATE, y -> y.draw(2, TOP - 299));
-        refused("promised above 10000000", PromiseTest::some, STATE, y -> y.draw(2, -1));
-        due("drawn to 10000000", some().draw(2, TOP - 300), TOP);
+        refused("draw above the promised part", Samples::some, STATE, y -> y.draw(0, 501));
+        refused("give back above the drawn part", Samples::some, STATE, y -> y.draw(0, -1001));
+        refused("drawn above 10000000", Samples::some, STATE, y -> y.draw(2, TOP - 299));
+        refused("promised above 10000000", Samples::some, STATE, y -> y.draw(2, -1));
+        due("drawn to 10000000", Samples.some().draw(2, TOP - 300), TOP);
     }
 
     private static void promise7SetClass() {
-        CapitalReckoner x = some();
+        CapitalReckoner x = Samples.some();
         due("class before", x.setClass(0, 3), 1);
         due("class before", x.setClass(0, 0), 3);
         due("class before", x.setClass(0, 0), 0);
         due("class of another", x.setClass(1, 2), 2);
-        CapitalReckoner y = fresh();
+        CapitalReckoner y = Samples.fresh();
         y.addExposure(3, 0, 1000, 0, 0, 1);
         y.setClass(0, 1);
         due("whole by the class", y.whole(), 200);
         due("plain by the class", y.plain(), 500);
         for (int no : new int[] {-1, 3, 8, FAR[0], FAR[1], FAR[2], FAR[3]}) {
-            refused("setClass of exposure " + no, PromiseTest::some, INDEX, z -> z.setClass(no, 0));
+            refused("setClass of exposure " + no, Samples::some, INDEX, z -> z.setClass(no, 0));
         }
         for (int no : new int[] {-1, 4, FAR[0], FAR[1], FAR[2], FAR[3]}) {
-            refused("setClass to " + no, PromiseTest::some, INDEX, z -> z.setClass(0, no));
-            refused("setClass to " + no, PromiseTest::full, INDEX, z -> z.setClass(7, no));
+            refused("setClass to " + no, Samples::some, INDEX, z -> z.setClass(0, no));
+            refused("setClass to " + no, Samples::full, INDEX, z -> z.setClass(7, no));
         }
-        refused("setClass of no exposure", PromiseTest::fresh, INDEX, z -> z.setClass(0, 0));
+        refused("setClass of no exposure", Samples::fresh, INDEX, z -> z.setClass(0, 0));
     }
 
     private static void promise8Guarantee() {
-        CapitalReckoner x = some();
+        CapitalReckoner x = Samples.some();
         due("no guarantee before", x.guarantee(0, 0, TOP), 0);
         due("guarantee before", x.guarantee(0, 3, 5), TOP);
         due("guarantee before", x.guarantee(0, 3, 0), 5);
         due("guarantee of 0 before", x.guarantee(0, 0, 0), 0);
         due("guarantee of another", x.guarantee(2, 0, 1), 77);
         for (int no : new int[] {-1, 3, 8, FAR[0], FAR[1], FAR[2], FAR[3]}) {
-            refused("guarantee of exposure " + no, PromiseTest::some, INDEX, z -> z.guarantee(no, 0, 1));
-            refused("guarantee of exposure, sum " + no, PromiseTest::some, INDEX, z -> z.guarantee(no, 0, -1));
+            refused("guarantee of exposure " + no, Samples::some, INDEX, z -> z.guarantee(no, 0, 1));
+            refused("guarantee of exposure, sum " + no, Samples::some, INDEX, z -> z.guarantee(no, 0, -1));
         }
         for (int no : new int[] {-1, 4, FAR[0], FAR[1], FAR[2], FAR[3]}) {
-            refused("guarantee class " + no, PromiseTest::some, INDEX, z -> z.guarantee(2, no, 1));
-            refused("guarantee class, no sum " + no, PromiseTest::some, INDEX, z -> z.guarantee(2, no, 0));
-            refused("guarantee class, sum " + no, PromiseTest::some, INDEX, z -> z.guarantee(2, no, TOP + 1));
+            refused("guarantee class " + no, Samples::some, INDEX, z -> z.guarantee(2, no, 1));
+            refused("guarantee class, no sum " + no, Samples::some, INDEX, z -> z.guarantee(2, no, 0));
+            refused("guarantee class, sum " + no, Samples::some, INDEX, z -> z.guarantee(2, no, TOP + 1));
         }
         for (int no : new int[] {-1, TOP + 1, FAR[0], FAR[1]}) {
-            refused("guarantee sum " + no, PromiseTest::some, ARGUMENT, z -> z.guarantee(2, 0, no));
+            refused("guarantee sum " + no, Samples::some, ARGUMENT, z -> z.guarantee(2, 0, no));
         }
-        refused("guarantee of no exposure", PromiseTest::fresh, INDEX, z -> z.guarantee(0, 0, 0));
+        refused("guarantee of no exposure", Samples::fresh, INDEX, z -> z.guarantee(0, 0, 0));
     }
 
     private static void promise8GuaranteeParts() {
-        CapitalReckoner x = fresh();
+        CapitalReckoner x = Samples.fresh();
         x.addExposure(2, 0, 999, 0, 0, 1);
         due("without a guarantee", x.weighted(0), 499);
         x.guarantee(0, 1, 499);
@@ -271,7 +241,7 @@ public final class PromiseTest {
         due("the guarantee takes of the bare part", x.weighted(0), 49);
         due("the bare part stays", x.bare(0), 299);
         due("plain knows no guarantee", x.plain(), 999);
-        CapitalReckoner y = fresh();
+        CapitalReckoner y = Samples.fresh();
         y.addExposure(2, 0, 1000, 0, 0, 1);
         y.setWeights(3, 50, 100);
         y.guarantee(0, 3, 333);
@@ -279,27 +249,27 @@ public final class PromiseTest {
     }
 
     private static void promises9And10Amounts() {
-        due("exposures", some().exposures(), 3);
-        due("exposures", full().exposures(), 8);
+        due("exposures", Samples.some().exposures(), 3);
+        due("exposures", Samples.full().exposures(), 8);
         int[] promised = {0, 1, 2, 3, 4, 5, 7, 8};
         int[] part = {0, 0, 0, 1, 1, 2, 2, 3};
-        CapitalReckoner x = fresh();
+        CapitalReckoner x = Samples.fresh();
         for (int e = 0; e < 8; e++) {
             x.addExposure(0, 0, 10, promised[e], 0, 1);
             due("amount with promised " + promised[e], x.amount(e), 10 + part[e]);
         }
-        CapitalReckoner y = fresh();
+        CapitalReckoner y = Samples.fresh();
         y.addExposure(0, 0, TOP, TOP, 0, 1);
         due("the greatest amount", y.amount(0), 14000000);
         for (int no : new int[] {-1, 3, 8, FAR[0], FAR[1], FAR[2], FAR[3]}) {
-            refused("amount of " + no, PromiseTest::some, INDEX, z -> z.amount(no));
+            refused("amount of " + no, Samples::some, INDEX, z -> z.amount(no));
         }
-        refused("amount of none", PromiseTest::fresh, INDEX, z -> z.amount(0));
-        refused("amount of 8", PromiseTest::full, INDEX, z -> z.amount(8));
+        refused("amount of none", Samples::fresh, INDEX, z -> z.amount(0));
+        refused("amount of 8", Samples::full, INDEX, z -> z.amount(8));
     }
 
     private static void promise11AddPiece() {
-        CapitalReckoner x = fresh();
+        CapitalReckoner x = Samples.fresh();
         for (int p = 0; p < 5; p++) {
             due("number of a piece", x.addPiece(p == 0 ? 1 : TOP, p * 25, p % 3, p == 0 ? 1 : 3650, p == 0 ? 0 : 255), p);
             due("pieces", x.pieces(), p + 1);
@@ -319,11 +289,11 @@ public final class PromiseTest {
         for (int no : new int[] {-1, 256, FAR[0], FAR[1], FAR[2]}) {
             refused("addPiece uses " + no, ARGUMENT, y -> y.addPiece(1, 0, 0, 1, no));
         }
-        refused("a sixth piece", PromiseTest::full, STATE, y -> y.addPiece(1, 0, 0, 1, 1));
+        refused("a sixth piece", Samples::full, STATE, y -> y.addPiece(1, 0, 0, 1, 1));
     }
 
     private static void promise12SetPiece() {
-        CapitalReckoner x = some();
+        CapitalReckoner x = Samples.some();
         due("amount before", x.setPiece(0, TOP, 0), 400);
         due("value then", x.value(0, 0), 4500000);
         due("it goes to none", x.givenTo(0), CapitalReckoner.NONE);
@@ -332,22 +302,22 @@ public final class PromiseTest {
         due("amount of another", x.setPiece(1, 1, 1), 600);
         due("amount before", x.setPiece(0, 1, 1), 1);
         for (int no : new int[] {-1, 2, 5, FAR[0], FAR[1], FAR[2], FAR[3]}) {
-            refused("setPiece of " + no, PromiseTest::some, INDEX, z -> z.setPiece(no, 1, 1));
-            refused("setPiece of, amount " + no, PromiseTest::some, INDEX, z -> z.setPiece(no, 0, 256));
+            refused("setPiece of " + no, Samples::some, INDEX, z -> z.setPiece(no, 1, 1));
+            refused("setPiece of, amount " + no, Samples::some, INDEX, z -> z.setPiece(no, 0, 256));
         }
         for (int no : new int[] {-1, 0, TOP + 1, FAR[0], FAR[1]}) {
-            refused("setPiece amount " + no, PromiseTest::some, ARGUMENT, z -> z.setPiece(0, no, 1));
+            refused("setPiece amount " + no, Samples::some, ARGUMENT, z -> z.setPiece(0, no, 1));
         }
         for (int no : new int[] {-1, 256, FAR[0], FAR[1], FAR[2]}) {
-            refused("setPiece uses " + no, PromiseTest::some, ARGUMENT, z -> z.setPiece(1, 1, no));
+            refused("setPiece uses " + no, Samples::some, ARGUMENT, z -> z.setPiece(1, 1, no));
         }
-        refused("setPiece of none", PromiseTest::fresh, INDEX, z -> z.setPiece(0, 1, 1));
+        refused("setPiece of none", Samples::fresh, INDEX, z -> z.setPiece(0, 1, 1));
     }
 
     private static void promises13And14Values() {
-        due("pieces", some().pieces(), 2);
-        due("pieces", full().pieces(), 5);
-        CapitalReckoner x = fresh();
+        due("pieces", Samples.some().pieces(), 2);
+        due("pieces", Samples.full().pieces(), 5);
+        CapitalReckoner x = Samples.fresh();
         x.addExposure(0, 0, 1, 0, 0, 3650);
         x.addExposure(0, 0, 1, 0, 1, 3649);
         x.addExposure(0, 0, 1, 0, 2, 7);
@@ -363,16 +333,16 @@ public final class PromiseTest {
         x.addPiece(TOP, 99, 2, 5, 255);
         due("a haircut of 99", x.value(3, 2), 71428);
         for (int no : new int[] {-1, 2, 5, FAR[0], FAR[1], FAR[2], FAR[3]}) {
-            refused("value of piece " + no, PromiseTest::some, INDEX, z -> z.value(no, 0));
+            refused("value of piece " + no, Samples::some, INDEX, z -> z.value(no, 0));
         }
         for (int no : new int[] {-1, 3, 8, FAR[0], FAR[1], FAR[2], FAR[3]}) {
-            refused("value for exposure " + no, PromiseTest::some, INDEX, z -> z.value(0, no));
+            refused("value for exposure " + no, Samples::some, INDEX, z -> z.value(0, no));
         }
-        refused("value of none", PromiseTest::fresh, INDEX, z -> z.value(0, 0));
+        refused("value of none", Samples::fresh, INDEX, z -> z.value(0, 0));
     }
 
     private static void promise15GivenTo() {
-        CapitalReckoner x = fresh();
+        CapitalReckoner x = Samples.fresh();
         x.addPiece(100, 0, 0, 10, 255);
         due("no exposures", x.givenTo(0), CapitalReckoner.NONE);
         x.addExposure(1, 0, 100, 0, 0, 1);
@@ -384,7 +354,7 @@ public final class PromiseTest {
         x.addExposure(0, 0, 50, 0, 0, 1);
         due("one of them is there then", x.givenTo(0), 2);
         // The greedy order fails here: the piece 0 must leave the exposure 0 to the piece 1.
-        CapitalReckoner y = fresh();
+        CapitalReckoner y = Samples.fresh();
         y.addExposure(3, 0, 100, 0, 0, 1);
         y.addExposure(3, 0, 90, 0, 0, 1);
         y.addPiece(100, 0, 0, 1, 3);
@@ -393,14 +363,14 @@ public final class PromiseTest {
         due("the piece 1", y.givenTo(1), 0);
         due("the whole", y.whole(), 0);
         for (int no : new int[] {-1, 2, 5, FAR[0], FAR[1], FAR[2], FAR[3]}) {
-            refused("givenTo of " + no, PromiseTest::some, INDEX, z -> z.givenTo(no));
+            refused("givenTo of " + no, Samples::some, INDEX, z -> z.givenTo(no));
         }
-        refused("givenTo of none", PromiseTest::fresh, INDEX, z -> z.givenTo(0));
-        refused("givenTo of 5", PromiseTest::full, INDEX, z -> z.givenTo(5));
+        refused("givenTo of none", Samples::fresh, INDEX, z -> z.givenTo(0));
+        refused("givenTo of 5", Samples::full, INDEX, z -> z.givenTo(5));
     }
 
     private static void promise15Ties() {
-        CapitalReckoner x = fresh();
+        CapitalReckoner x = Samples.fresh();
         for (int e = 0; e < 8; e++) {
             x.addExposure(0, 0, 100, 0, 0, 1);
         }
@@ -413,7 +383,7 @@ public final class PromiseTest {
             due("where nothing weighs, the lowest number: piece " + p, x.givenTo(p), to[p]);
         }
         // Two pieces must be parted; of both ways the one that gives the piece 0 to the lower exposure.
-        CapitalReckoner y = fresh();
+        CapitalReckoner y = Samples.fresh();
         y.addExposure(3, 0, 100, 0, 0, 1);
         y.addExposure(3, 0, 100, 0, 0, 1);
         y.addPiece(100, 0, 0, 1, 3);
@@ -423,7 +393,7 @@ public final class PromiseTest {
         y.addPiece(5, 0, 0, 1, 3);
         due("the piece 2, no more needed", y.givenTo(2), 0);
         // A value that the rounding swallows matters as little as none.
-        CapitalReckoner z = fresh();
+        CapitalReckoner z = Samples.fresh();
         z.addExposure(1, 0, 4, 0, 0, 1);
         z.addExposure(1, 0, 8, 0, 0, 1);
         z.addPiece(4, 0, 0, 1, 3);
@@ -436,7 +406,7 @@ public final class PromiseTest {
     }
 
     private static void promises16And17Parts() {
-        CapitalReckoner x = fresh();
+        CapitalReckoner x = Samples.fresh();
         x.addExposure(3, 0, 1001, 0, 0, 10);
         x.addExposure(1, 0, 399, 0, 1, 10);
         due("bare without collateral", x.bare(0), 1001);
@@ -452,20 +422,20 @@ public final class PromiseTest {
         x.setWeights(3, 400, 100);
         x.setPiece(0, 1, 1);
         due("weighted by 400 percent", x.weighted(0), 4 * (1001 - 1 - 92));
-        CapitalReckoner y = fresh();
+        CapitalReckoner y = Samples.fresh();
         y.addExposure(3, 0, TOP, TOP, 0, 1);
         y.setWeights(3, 400, 400);
         due("the greatest weighted", y.weighted(0), 56000000);
         for (int no : new int[] {-1, 3, 8, FAR[0], FAR[1], FAR[2], FAR[3]}) {
-            refused("bare of " + no, PromiseTest::some, INDEX, z -> z.bare(no));
-            refused("weighted of " + no, PromiseTest::some, INDEX, z -> z.weighted(no));
+            refused("bare of " + no, Samples::some, INDEX, z -> z.bare(no));
+            refused("weighted of " + no, Samples::some, INDEX, z -> z.weighted(no));
         }
-        refused("bare of none", PromiseTest::fresh, INDEX, z -> z.bare(0));
-        refused("weighted of none", PromiseTest::fresh, INDEX, z -> z.weighted(0));
+        refused("bare of none", Samples::fresh, INDEX, z -> z.bare(0));
+        refused("weighted of none", Samples::fresh, INDEX, z -> z.weighted(0));
     }
 
     private static void promises18And19Whole() {
-        CapitalReckoner x = fresh();
+        CapitalReckoner x = Samples.fresh();
         x.setWeights(3, 400, 400);
         for (int e = 0; e < 8; e++) {
             x.addExposure(3, 0, TOP, TOP, 0, 1);
@@ -477,14 +447,14 @@ public final class PromiseTest {
             due("whole", x.whole(), 448000000 - 40000000 * (p + 1));
             due("wholeByTrying", x.wholeByTrying(), 448000000 - 40000000 * (p + 1));
         }
-        due("wholeByTrying as the first question", some().wholeByTrying(), some().whole());
-        CapitalReckoner y = fresh();
+        due("wholeByTrying as the first question", Samples.some().wholeByTrying(), Samples.some().whole());
+        CapitalReckoner y = Samples.fresh();
         y.addExposure(1, 0, 4, 0, 0, 1);
         y.addExposure(1, 0, 4, 0, 0, 1);
         due("each is rounded by itself", y.whole(), 0);
         y.setClass(0, 3);
         due("wholeByTrying as the first question after a change", y.wholeByTrying(), 4);
-        CapitalReckoner z = fresh();
+        CapitalReckoner z = Samples.fresh();
         z.addExposure(3, 0, 60, 0, 0, 1);
         z.addExposure(3, 0, 50, 0, 0, 1);
         z.addExposure(3, 0, 40, 0, 0, 1);
@@ -496,7 +466,7 @@ public final class PromiseTest {
     }
 
     private static void promise20Worth() {
-        CapitalReckoner x = fresh();
+        CapitalReckoner x = Samples.fresh();
         x.addExposure(3, 0, 100, 0, 0, 1);
         x.addExposure(2, 0, 100, 0, 0, 1);
         x.addPiece(100, 0, 0, 1, 3);
@@ -512,13 +482,13 @@ public final class PromiseTest {
         due("the others are worth as before", x.worth(1), 50);
         due("no piece is gone", x.pieces(), 3);
         for (int no : new int[] {-1, 2, 5, FAR[0], FAR[1], FAR[2], FAR[3]}) {
-            refused("worth of " + no, PromiseTest::some, INDEX, z -> z.worth(no));
+            refused("worth of " + no, Samples::some, INDEX, z -> z.worth(no));
         }
-        refused("worth of none", PromiseTest::fresh, INDEX, z -> z.worth(0));
+        refused("worth of none", Samples::fresh, INDEX, z -> z.worth(0));
     }
 
     private static void promises21And22Required() {
-        CapitalReckoner x = fresh();
+        CapitalReckoner x = Samples.fresh();
         x.addExposure(1, 0, 101, 0, 0, 1);
         x.addExposure(1, 0, 101, 0, 0, 1);
         due("plain, each rounded by itself", x.plain(), 100);
@@ -537,7 +507,7 @@ public final class PromiseTest {
         due("both are as great", x.required(), 21);
         x.setFloor(22);
         due("the floor is the greater one", x.required(), 22);
-        CapitalReckoner y = fresh();
+        CapitalReckoner y = Samples.fresh();
         y.setWeights(0, 0, 400);
         for (int e = 0; e < 8; e++) {
             y.addExposure(0, 0, TOP, TOP, 0, 1);
@@ -550,7 +520,7 @@ public final class PromiseTest {
     }
 
     private static void promises23And24Parties() {
-        CapitalReckoner x = fresh();
+        CapitalReckoner x = Samples.fresh();
         x.addExposure(0, 3, 10, 0, 0, 1);
         x.addExposure(3, 1, 20, 0, 0, 1);
         x.addExposure(2, 3, 30, 5, 0, 1);
@@ -572,7 +542,7 @@ public final class PromiseTest {
         due("the piece goes to the party 1 first", x.partyBare(1), 0);
         due("and none of it to the party 3", x.partyBare(3), 42);
         due("the party 1 is not too large", x.tooLarge(), 8);
-        due("all four parties", full().tooLarge(), 15);
+        due("all four parties", Samples.full().tooLarge(), 15);
         x.setPiece(0, 32, 1);
         due("partyBare as the first question after a change", x.partyBare(3), 32);
         due("and of the party that lost the piece", x.partyBare(1), 20);

@@ -8,9 +8,9 @@ public final class RoomTest {
     public static void main(String[] args) {
         Checks checks = new Checks();
         ThreadMXBean threads = (ThreadMXBean) ManagementFactory.getThreadMXBean();
-        ask(full(), 5);
+        ask(Samples.full(), 5);
         long start = threads.getCurrentThreadAllocatedBytes();
-        CapitalReckoner x = full();
+        CapitalReckoner x = Samples.full();
         long made = threads.getCurrentThreadAllocatedBytes();
         ask(x, 20);
         long asked = threads.getCurrentThreadAllocatedBytes();
@@ -18,17 +18,6 @@ public final class RoomTest {
         // Above 0 only by what the machine itself may make meanwhile.
         checks.due("280 questions make " + (asked - made) + " bytes", asked - made < 280 * 8, true);
         checks.end("RoomTest");
-    }
-
-    private static CapitalReckoner full() {
-        CapitalReckoner x = new CapitalReckoner();
-        for (int e = 0; e < 8; e++) {
-            x.addExposure(e % 4, e / 2, 100 * e, 10 * e, e % 3, 10 + e);
-        }
-        for (int p = 0; p < 5; p++) {
-            x.addPiece(90 + p, p, p % 3, 8 + 2 * p, 255);
-        }
-        return x;
     }
 
     private static int ask(CapitalReckoner x, int times) {
