@@ -170,6 +170,9 @@ public final class RoundingTest {
         due("1 and a quarter of 7", tooLarge(1, 7), 0);
         due("2 and a quarter of 7", tooLarge(2, 7), 1);
         due("2 and a quarter of 8", tooLarge(2, 8), 0);
+        for (int capital = 100000000; capital <= 1000000000; capital += 100000000) {
+            due("1 and a quarter of " + capital, tooLarge(1, capital), 0);
+        }
     }
 
     private static void quarterOfAllTogether() {
